@@ -42,12 +42,14 @@ final class Check {
         try {
             return Long.toString(made.answer());
         } catch (RuntimeException thrown) {
-            return isThrownByMachine(thrown) ? "machine." + thrown : "throws." + thrown.getClass().getSimpleName();
+            return nameOf(thrown);
         }
     }
 
-    private static boolean isThrownByMachine(RuntimeException thrown) {
-        return thrown instanceof ArithmeticException && "/ by zero".equals(thrown.getMessage());
+    /** A division by 0 that the machine refuses has the due class, but not a text of the program. */
+    static String nameOf(Throwable thrown) {
+        String by = "/ by zero".equals(thrown.getMessage()) ? "machine." : "throws.";
+        return by + thrown.getClass().getSimpleName();
     }
 
     private void tell(String call, String got, String want) {
