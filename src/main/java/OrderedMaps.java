@@ -520,9 +520,13 @@ public final class OrderedMaps {
             return place >= 0 && place < members.length;
         }
 
-        /** Each sort keeps its members in one way only, so that things are the same if their arrays are. */
         boolean isWhatIs(Thing other) {
-            if (sort() != other.sort() || members.length != other.members.length) {
+            return sort() == other.sort() && hasMembersOf(other);
+        }
+
+        /** Each sort keeps its members in one way only, so that they are the same if the arrays are. */
+        final boolean hasMembersOf(Thing other) {
+            if (members.length != other.members.length) {
                 return false;
             }
             for (int i = 0; i < members.length && i < other.members.length; i++) {
@@ -546,7 +550,6 @@ public final class OrderedMaps {
             this.strict = strict;
         }
 
-        @Override
         int sort() {
             return MAPS;
         }
@@ -555,10 +558,9 @@ public final class OrderedMaps {
             return bits == other.bits && strict == other.strict;
         }
 
-        @Override
         boolean isWhatIs(Thing other) {
             if (other instanceof MapThing second) {
-                return bits == second.bits && super.isWhatIs(second);
+                return bits == second.bits && hasMembersOf(second);
             }
             return false;
         }
@@ -603,7 +605,6 @@ public final class OrderedMaps {
             return compareKeys(members[place], other.members[otherPlace]);
         }
 
-        @Override
         boolean keepsItsRules() {
             if (values.length != members.length) {
                 return false;
@@ -626,13 +627,11 @@ public final class OrderedMaps {
             super(items);
         }
 
-        @Override
         int sort() {
             return ROWS;
         }
 
         /** A row may have any items at its places: it has no rule but the limit, which holds for every sort. */
-        @Override
         boolean keepsItsRules() {
             return true;
         }
@@ -643,12 +642,10 @@ public final class OrderedMaps {
             super(items);
         }
 
-        @Override
         int sort() {
             return HEAPS;
         }
 
-        @Override
         boolean keepsItsRules() {
             for (int i = 1; i < members.length; i++) {
                 if (members[i - 1] > members[i]) {

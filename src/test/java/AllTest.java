@@ -108,6 +108,8 @@ public final class AllTest {
         int otherwise = x.push(heap, 2);
         CHECK.due("rows", x.same(row, sameRow), 1);
         CHECK.due("rows in other places", x.same(row, turned), 0);
+        CHECK.due("another first item", x.same(row, x.replace(row, 0, 7)), 0);
+        CHECK.due("another last item", x.same(row, x.replace(row, 1, 7)), 0);
         CHECK.due("a longer row", x.same(row, longer), 0);
         CHECK.due("a shorter row", x.same(longer, row), 0);
         CHECK.due("heaps", x.same(heap, sameHeap), 1);
@@ -128,7 +130,6 @@ public final class AllTest {
 
     private static void promise31Sound() {
         OrderedMaps x = new OrderedMaps();
-        int things = 0;
         for (int sort = 0; sort < 4; sort++) {
             int map = x.map(sort % 2 == 0, sort / 2 == 0);
             for (long key = -5; key < 5; key++) {
@@ -141,7 +142,7 @@ public final class AllTest {
             row = x.add(row, i % 3 == 0, -i);
             heap = x.push(heap, i * 7 % 11);
         }
-        things = x.told(0);
+        int things = x.told(0);
         for (int thing = 0; thing < things; thing++) {
             CHECK.due("sound " + thing, x.sound(thing), true);
         }

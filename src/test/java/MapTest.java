@@ -143,7 +143,7 @@ public final class MapTest {
         CHECK.due("the value of a", x.get(made, 3), 3);
         CHECK.due("the value of b alone", x.get(made, 4), 4);
         CHECK.due("the value of b first", x.get(x.union(b, a), 3), 100);
-        dueKeys(x, "a after it", a, -0L + 1, 3, -1);
+        dueKeys(x, "a after it", a, 1, 3, -1);
         dueKeys(x, "with one without keys", x.union(a, x.map(true, false)), 1, 3, -1);
         dueKeys(x, "of one without keys", x.union(x.map(true, false), a), 1, 3, -1);
         dueKeys(x, "with itself", x.union(a, a), 1, 3, -1);
