@@ -1,9 +1,11 @@
-/** Compares answers with those that are due, tells the wrong ones, and ends a test with exit code 1 if there were any. */
+/** Compares answers with those that are due, tells the wrong ones, and ends with exit code 1 if there were any. */
 final class Check {
     /** A call of the face; a boolean answer counts 1 or 0. */
     interface Call {
         long answer();
     }
+
+    private static final long MOST_MILLISECONDS = 300_000;
 
     private final String test;
     private int right;
@@ -11,6 +13,20 @@ final class Check {
 
     Check(String test) {
         this.test = test;
+        Thread watch = new Thread(this::endTheEndless);
+        watch.setDaemon(true);
+        watch.start();
+    }
+
+    /** A call that does not end must fail its test, not hang the run; no test needs a tenth of this time. */
+    private void endTheEndless() {
+        try {
+            Thread.sleep(MOST_MILLISECONDS);
+        } catch (InterruptedException woken) {
+            return;
+        }
+        System.out.println(test + ": a call does not end");
+        Runtime.getRuntime().halt(1);
     }
 
     void due(String call, long got, long want) {

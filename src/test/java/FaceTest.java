@@ -105,14 +105,17 @@ public final class FaceTest {
                 open.add(method.getName());
             }
         }
-        for (Method method : OrderedMaps.class.getDeclaredMethods()) {
-            boolean isShut = Modifier.isPrivate(method.getModifiers());
-            CHECK.due(method.getName(), isShut && open.contains(method.getName()), false);
-        }
+        noPrivateMethodBears(open, OrderedMaps.class);
         for (Class<?> inside : OrderedMaps.class.getDeclaredClasses()) {
-            for (Method method : inside.getDeclaredMethods()) {
-                CHECK.due(inside.getSimpleName() + "." + method.getName(), open.contains(method.getName()), false);
-            }
+            noPrivateMethodBears(open, inside);
+        }
+    }
+
+    private static void noPrivateMethodBears(Set<String> open, Class<?> type) {
+        for (Method method : type.getDeclaredMethods()) {
+            boolean isShut = Modifier.isPrivate(method.getModifiers());
+            String name = type.getSimpleName() + "." + method.getName();
+            CHECK.due(name + " bears a public name", isShut && open.contains(method.getName()), false);
         }
     }
 
@@ -122,7 +125,8 @@ public final class FaceTest {
         for (Class<?> inside : insides) {
             int marks = inside.getModifiers();
             CHECK.due(inside.getSimpleName() + " is static", Modifier.isStatic(marks), true);
-            CHECK.due(inside.getSimpleName() + " is shut", Modifier.isPublic(marks) || Modifier.isProtected(marks), false);
+            boolean isOpen = Modifier.isPublic(marks) || Modifier.isProtected(marks);
+            CHECK.due(inside.getSimpleName() + " is open", isOpen, false);
             staticFieldsAreFinal(inside);
             CHECK.due("fields of " + inside.getSimpleName(), inside.getDeclaredFields().length <= 20, true);
         }
@@ -132,7 +136,8 @@ public final class FaceTest {
     private static void staticFieldsAreFinal(Class<?> type) {
         for (Field field : type.getDeclaredFields()) {
             int marks = field.getModifiers();
-            CHECK.due(field.getName() + " if static is final", Modifier.isStatic(marks) && !Modifier.isFinal(marks), false);
+            boolean canChange = Modifier.isStatic(marks) && !Modifier.isFinal(marks);
+            CHECK.due(field.getName() + " is static and can change", canChange, false);
         }
     }
 }

@@ -13,14 +13,6 @@ public final class HeapTest {
         CHECK.end();
     }
 
-    private static int heapOf(OrderedMaps x, long... items) {
-        int heap = x.heap();
-        for (long item : items) {
-            heap = x.push(heap, item);
-        }
-        return heap;
-    }
-
     /** Empties copies of the heap: the items must come from the least on. */
     private static void dueItems(OrderedMaps x, String call, int heap, long... items) {
         CHECK.due("size of " + call, x.size(heap), items.length);
@@ -54,7 +46,7 @@ public final class HeapTest {
         dueItems(x, "heap 4", 4, -5, 0, 5, 5);
         dueItems(x, "heap 5", 5, 5, 7);
         dueItems(x, "heap 1", 1, 5);
-        dueItems(x, "the ends", heapOf(x, Long.MAX_VALUE, 0, Long.MIN_VALUE), Long.MIN_VALUE, 0, Long.MAX_VALUE);
+        dueItems(x, "the ends", Things.heapOf(x, Long.MAX_VALUE, 0, Long.MIN_VALUE), Long.MIN_VALUE, 0, Long.MAX_VALUE);
         CHECK.due("push unknown", x.push(299, 1), -1);
         CHECK.due("push below 0", x.push(-1, 1), -1);
         int map = x.map(false, false);
@@ -65,8 +57,8 @@ public final class HeapTest {
 
     private static void promise26Meld() {
         OrderedMaps x = new OrderedMaps();
-        int a = heapOf(x, 4, 1, 9);
-        int b = heapOf(x, 2, 4);
+        int a = Things.heapOf(x, 4, 1, 9);
+        int b = Things.heapOf(x, 2, 4);
         int none = x.heap();
         dueItems(x, "a, b", x.meld(a, b), 1, 2, 4, 4, 9);
         dueItems(x, "b, a", x.meld(b, a), 1, 2, 4, 4, 9);
@@ -85,7 +77,7 @@ public final class HeapTest {
 
     private static void promise27Pop() {
         OrderedMaps x = new OrderedMaps();
-        int heap = heapOf(x, 3, 1, 1);
+        int heap = Things.heapOf(x, 3, 1, 1);
         int next = x.told(0);
         CHECK.due("pop", x.pop(heap), next);
         CHECK.due("once of two", x.least(next), 1);
@@ -103,8 +95,8 @@ public final class HeapTest {
 
     private static void promise28Least() {
         OrderedMaps x = new OrderedMaps();
-        CHECK.due("least", x.least(heapOf(x, 3, -1, 2)), -1);
-        CHECK.due("as longs", x.least(heapOf(x, 0, Long.MAX_VALUE, Long.MIN_VALUE)), Long.MIN_VALUE);
+        CHECK.due("least", x.least(Things.heapOf(x, 3, -1, 2)), -1);
+        CHECK.due("as longs", x.least(Things.heapOf(x, 0, Long.MAX_VALUE, Long.MIN_VALUE)), Long.MIN_VALUE);
         CHECK.fails("of none", NoSuchElementException.class, () -> x.least(0));
         CHECK.fails("unknown", IllegalArgumentException.class, () -> x.least(99));
         CHECK.fails("below 0", IllegalArgumentException.class, () -> x.least(-1));

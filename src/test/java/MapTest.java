@@ -27,15 +27,6 @@ public final class MapTest {
         CHECK.end();
     }
 
-    /** A map with these keys, each with itself as its value: its number. */
-    private static int mapOf(OrderedMaps x, boolean bits, boolean strict, long... keys) {
-        int map = x.map(bits, strict);
-        for (long key : keys) {
-            map = x.put(map, key, key, 1);
-        }
-        return map;
-    }
-
     private static void dueKeys(OrderedMaps x, String call, int map, long... keys) {
         CHECK.due("size of " + call, x.size(map), keys.length);
         for (int i = 0; i < keys.length; i++) {
@@ -117,7 +108,7 @@ public final class MapTest {
 
     private static void promise5Drop() {
         OrderedMaps x = new OrderedMaps();
-        int map = mapOf(x, false, false, 1, 2, 3);
+        int map = Things.mapOf(x, false, false, 1, 2, 3);
         int next = x.told(0);
         CHECK.due("drop between", x.drop(map, 2), next);
         CHECK.due("drop the first", x.drop(map, 1), next + 1);
@@ -136,8 +127,8 @@ public final class MapTest {
 
     private static void promise6Union() {
         OrderedMaps x = new OrderedMaps();
-        int a = mapOf(x, true, false, 1, 3, -1);
-        int b = x.put(mapOf(x, true, false, 0, 4, LEAST), 3, 100, 1);
+        int a = Things.mapOf(x, true, false, 1, 3, -1);
+        int b = x.put(Things.mapOf(x, true, false, 0, 4, LEAST), 3, 100, 1);
         int made = x.union(a, b);
         dueKeys(x, "union", made, 0, 1, 3, 4, LEAST, -1);
         CHECK.due("the value of a", x.get(made, 3), 3);
@@ -177,8 +168,8 @@ public final class MapTest {
 
     private static void promise7Both() {
         OrderedMaps x = new OrderedMaps();
-        int a = mapOf(x, true, false, 1, 3, 5, -1);
-        int b = x.put(mapOf(x, true, false, 0, 5, -1, 7), 5, 100, 1);
+        int a = Things.mapOf(x, true, false, 1, 3, 5, -1);
+        int b = x.put(Things.mapOf(x, true, false, 0, 5, -1, 7), 5, 100, 1);
         int made = x.both(a, b);
         dueKeys(x, "both", made, 5, -1);
         CHECK.due("the value of a", x.get(made, 5), 5);
@@ -191,8 +182,8 @@ public final class MapTest {
 
     private static void promise8Less() {
         OrderedMaps x = new OrderedMaps();
-        int a = mapOf(x, true, false, 1, 3, 5, -1);
-        int b = mapOf(x, true, false, 0, 5, -1, 7);
+        int a = Things.mapOf(x, true, false, 1, 3, 5, -1);
+        int b = Things.mapOf(x, true, false, 0, 5, -1, 7);
         int made = x.less(a, b);
         dueKeys(x, "less", made, 1, 3);
         CHECK.due("the value of a", x.get(made, 3), 3);
@@ -205,14 +196,14 @@ public final class MapTest {
 
     private static void promise9Part() {
         OrderedMaps x = new OrderedMaps();
-        int signed = mapOf(x, false, false, LEAST, -1, 0, 1, MOST);
+        int signed = Things.mapOf(x, false, false, LEAST, -1, 0, 1, MOST);
         dueKeys(x, "before 0, signed", x.part(signed, 0, 0), LEAST, -1);
         dueKeys(x, "behind 0, signed", x.part(signed, 0, 1), 1, MOST);
         dueKeys(x, "before one that it has not", x.part(signed, 5, 0), LEAST, -1, 0, 1);
         dueKeys(x, "behind one that it has not", x.part(signed, 5, 1), MOST);
         dueKeys(x, "before the first", x.part(signed, LEAST, 0));
         dueKeys(x, "behind the last", x.part(signed, MOST, 1));
-        int bits = mapOf(x, true, false, LEAST, -1, 0, 1, MOST);
+        int bits = Things.mapOf(x, true, false, LEAST, -1, 0, 1, MOST);
         dueKeys(x, "before -1, bits", x.part(bits, -1, 0), 0, 1, MOST, LEAST);
         dueKeys(x, "behind 0, bits", x.part(bits, 0, 1), 1, MOST, LEAST, -1);
         dueKeys(x, "behind the last, bits", x.part(bits, -1, 1));
@@ -227,7 +218,7 @@ public final class MapTest {
 
     private static void promise10Kept() {
         OrderedMaps x = new OrderedMaps();
-        int map = mapOf(x, false, false, LEAST, -4, -3, -2, -1, 0, 1, 2, 3, MOST);
+        int map = Things.mapOf(x, false, false, LEAST, -4, -3, -2, -1, 0, 1, 2, 3, MOST);
         dueKeys(x, "3, 0", x.kept(map, 3, 0), -3, 0, 3);
         dueKeys(x, "3, 1", x.kept(map, 3, 1), LEAST, -2, 1, MOST);
         dueKeys(x, "3, 2", x.kept(map, 3, 2), -4, -1, 2);
@@ -236,7 +227,7 @@ public final class MapTest {
         dueKeys(x, "r below 0", x.kept(map, 3, -1));
         dueKeys(x, "m the most, r 0", x.kept(map, MOST, 0), 0, MOST);
         dueKeys(x, "m the most, r m - 1", x.kept(map, MOST, MOST - 1), LEAST, -1);
-        int bits = mapOf(x, true, false, -1, 0, 2, 5);
+        int bits = Things.mapOf(x, true, false, -1, 0, 2, 5);
         dueKeys(x, "bits: keys are longs", x.kept(bits, 3, 2), 2, 5, -1);
         CHECK.due("a value of it", x.get(x.kept(bits, 3, 2), 5), 5);
         CHECK.due("m 0", x.kept(map, 0, 0), -2);
@@ -249,7 +240,7 @@ public final class MapTest {
 
     private static void promise11Has() {
         OrderedMaps x = new OrderedMaps();
-        int map = mapOf(x, true, false, -1, 1);
+        int map = Things.mapOf(x, true, false, -1, 1);
         CHECK.due("has", x.has(map, -1), true);
         CHECK.due("has, too", x.has(map, 1), true);
         CHECK.due("has not", x.has(map, 0), false);
@@ -304,9 +295,9 @@ public final class MapTest {
 
     private static void promise13Key() {
         OrderedMaps x = new OrderedMaps();
-        int signed = mapOf(x, false, false, 0, LEAST, MOST, -1, 1);
+        int signed = Things.mapOf(x, false, false, 0, LEAST, MOST, -1, 1);
         dueKeys(x, "signed", signed, LEAST, -1, 0, 1, MOST);
-        int bits = mapOf(x, true, false, 0, LEAST, MOST, -1, 1);
+        int bits = Things.mapOf(x, true, false, 0, LEAST, MOST, -1, 1);
         dueKeys(x, "bits", bits, 0, 1, MOST, LEAST, -1);
         CHECK.fails("place 5", IndexOutOfBoundsException.class, () -> x.key(bits, 5));
         CHECK.fails("place -1", IndexOutOfBoundsException.class, () -> x.key(bits, -1));
@@ -322,8 +313,8 @@ public final class MapTest {
 
     private static void promise14Rank() {
         OrderedMaps x = new OrderedMaps();
-        int signed = mapOf(x, false, false, LEAST, -1, 1, MOST);
-        int bits = mapOf(x, true, false, LEAST, -1, 1, MOST);
+        int signed = Things.mapOf(x, false, false, LEAST, -1, 1, MOST);
+        int bits = Things.mapOf(x, true, false, LEAST, -1, 1, MOST);
         long[] keys = {LEAST, -1, 0, 1, 2, MOST};
         long[] dueSigned = {0, 1, 2, 2, 3, 3};
         long[] dueBits = {2, 3, 0, 0, 1, 1};
@@ -331,7 +322,7 @@ public final class MapTest {
             CHECK.due("rank, signed, of " + keys[i], x.rank(signed, keys[i]), dueSigned[i]);
             CHECK.due("rank, bits, of " + keys[i], x.rank(bits, keys[i]), dueBits[i]);
         }
-        CHECK.due("behind all", x.rank(mapOf(x, false, false, 1, 2), 3), 2);
+        CHECK.due("behind all", x.rank(Things.mapOf(x, false, false, 1, 2), 3), 2);
         CHECK.due("of no keys", x.rank(0, 3), 0);
         CHECK.due("unknown", x.rank(99, 3), -1);
         int heap = x.heap();
@@ -340,7 +331,7 @@ public final class MapTest {
 
     private static void promise15Fold() {
         OrderedMaps x = new OrderedMaps();
-        int signed = mapOf(x, false, false, -5, -1, 2, 7);
+        int signed = Things.mapOf(x, false, false, -5, -1, 2, 7);
         CHECK.due("of some", x.fold(signed, -1, 2), 1);
         CHECK.due("only they are needed", x.worked(), 2);
         CHECK.due("of all", x.fold(signed, LEAST, MOST), 3);
@@ -350,7 +341,7 @@ public final class MapTest {
         CHECK.due("the wrong way round", x.fold(signed, 7, -5), 0);
         CHECK.due("by ends it has not", x.fold(signed, -4, 6), 1);
         CHECK.due("of no keys", x.fold(0, LEAST, MOST), 0);
-        int bits = mapOf(x, true, false, -5, -1, 2, 7);
+        int bits = Things.mapOf(x, true, false, -5, -1, 2, 7);
         CHECK.due("bits, all", x.fold(bits, 0, -1), 3);
         CHECK.due("bits, from 3 on", x.fold(bits, 3, -2), 2);
         CHECK.due("bits, the wrong way round", x.fold(bits, -1, 0), 0);
@@ -363,7 +354,7 @@ public final class MapTest {
 
     private static void promise15FoldThatFails() {
         OrderedMaps x = new OrderedMaps();
-        int map = x.put(mapOf(x, true, false, 1, 2, -1), 3, 1, 0);
+        int map = x.put(Things.mapOf(x, true, false, 1, 2, -1), 3, 1, 0);
         CHECK.fails("fold that fails", ArithmeticException.class, () -> x.fold(map, 0, -1));
         CHECK.due("two before it, and it", x.worked(), 3);
         CHECK.due("one before it is kept", x.get(map, 2), 2);

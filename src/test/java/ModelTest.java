@@ -8,8 +8,8 @@ import java.util.Map;
 public final class ModelTest {
     private static final int RUNS = 2000;
     private static final int ACTS = 380;
-    /** Acts and looks stay below 512 calls: what later ones answer is free. */
-    private static final int LOOKS = 130;
+    /** Acts, looks and the last question make up the 512 calls of an object: what later ones answer is free. */
+    private static final int LOOKS = 131;
 
     /**
      * Behind a name its arguments: m, r, h a map, a row, a heap, a any thing, k a key, p a place, s a side, c a small

@@ -14,14 +14,6 @@ public final class RowTest {
         CHECK.end();
     }
 
-    private static int rowOf(OrderedMaps x, long... items) {
-        int row = x.row();
-        for (long item : items) {
-            row = x.add(row, false, item);
-        }
-        return row;
-    }
-
     private static void dueItems(OrderedMaps x, String call, int row, long... items) {
         CHECK.due("size of " + call, x.size(row), items.length);
         for (int i = 0; i < items.length; i++) {
@@ -61,8 +53,8 @@ public final class RowTest {
 
     private static void promise18Join() {
         OrderedMaps x = new OrderedMaps();
-        int a = rowOf(x, 3, 1);
-        int b = rowOf(x, 2, 9, 4);
+        int a = Things.rowOf(x, 3, 1);
+        int b = Things.rowOf(x, 2, 9, 4);
         int none = x.row();
         dueItems(x, "a, b", x.join(a, b), 3, 1, 2, 9, 4);
         dueItems(x, "b, a", x.join(b, a), 2, 9, 4, 3, 1);
@@ -81,7 +73,7 @@ public final class RowTest {
 
     private static void promise19Cut() {
         OrderedMaps x = new OrderedMaps();
-        int row = rowOf(x, 5, 6, 7);
+        int row = Things.rowOf(x, 5, 6, 7);
         dueItems(x, "the first 2", x.cut(row, 2, 0), 5, 6);
         dueItems(x, "the others", x.cut(row, 2, 1), 7);
         dueItems(x, "the first 0", x.cut(row, 0, 0));
@@ -105,7 +97,7 @@ public final class RowTest {
 
     private static void promise20Replace() {
         OrderedMaps x = new OrderedMaps();
-        int row = rowOf(x, 5, 6, 7);
+        int row = Things.rowOf(x, 5, 6, 7);
         dueItems(x, "the first", x.replace(row, 0, 1), 1, 6, 7);
         dueItems(x, "the middle", x.replace(row, 1, 1), 5, 1, 7);
         dueItems(x, "the last", x.replace(row, 2, 1), 5, 6, 1);
@@ -122,12 +114,12 @@ public final class RowTest {
 
     private static void promise21Turned() {
         OrderedMaps x = new OrderedMaps();
-        int row = rowOf(x, 5, 6, 7);
+        int row = Things.rowOf(x, 5, 6, 7);
         int other = x.turned(row);
         dueItems(x, "turned", other, 7, 6, 5);
         dueItems(x, "turned twice", x.turned(other), 5, 6, 7);
         dueItems(x, "the old row", row, 5, 6, 7);
-        dueItems(x, "an even row", x.turned(rowOf(x, 1, 2, 3, 4)), 4, 3, 2, 1);
+        dueItems(x, "an even row", x.turned(Things.rowOf(x, 1, 2, 3, 4)), 4, 3, 2, 1);
         dueItems(x, "of none", x.turned(0));
         CHECK.due("unknown", x.turned(99), -1);
         int map = x.map(false, false);
@@ -136,7 +128,7 @@ public final class RowTest {
 
     private static void promise22At() {
         OrderedMaps x = new OrderedMaps();
-        int row = rowOf(x, Long.MIN_VALUE, 0, Long.MAX_VALUE);
+        int row = Things.rowOf(x, Long.MIN_VALUE, 0, Long.MAX_VALUE);
         dueItems(x, "at", row, Long.MIN_VALUE, 0, Long.MAX_VALUE);
         CHECK.fails("place 3", IndexOutOfBoundsException.class, () -> x.at(row, 3));
         CHECK.fails("place -1", IndexOutOfBoundsException.class, () -> x.at(row, -1));
@@ -150,7 +142,7 @@ public final class RowTest {
 
     private static void promise23Find() {
         OrderedMaps x = new OrderedMaps();
-        int row = rowOf(x, 2, -9, 5, 5, 1);
+        int row = Things.rowOf(x, 2, -9, 5, 5, 1);
         CHECK.due("from 0, 2", x.find(row, 0, 2), 0);
         CHECK.due("from 1, 2", x.find(row, 1, 2), 2);
         CHECK.due("from 3, 5", x.find(row, 3, 5), 3);
